@@ -539,16 +539,17 @@ public final class HiddenRows {
         final int[] told = new int[MOST_BEST];
         int size = 0;
 
-        void offer(long weight, int tells) {
+        /** Answers whether it has been taken in. */
+        boolean offer(long weight, int tells) {
             if (weight <= 0) {
-                return;
+                return false;
             }
             int at = size;
             while (at > 0 && isBetter(weight, tells, at - 1)) {
                 at--;
             }
             if (at >= MOST_BEST) {
-                return;
+                return false;
             }
             size = Math.min(size + 1, MOST_BEST);
             for (int i = size - 1; i > at; i--) {
@@ -557,6 +558,7 @@ public final class HiddenRows {
             }
             weights[at] = weight;
             told[at] = tells;
+            return true;
         }
 
         private boolean isBetter(long weight, int tells, int than) {
@@ -630,9 +632,12 @@ public final class HiddenRows {
             }
         }
 
+        /** The rest has its best first, so when one is not taken in, none behind it would be. */
         private static void offerAll(WayList list, long weight, int head, WayList rest) {
             for (int i = 0; i < rest.size; i++) {
-                list.offer(weight * rest.weights[i], head | rest.told[i]);
+                if (!list.offer(weight * rest.weights[i], head | rest.told[i])) {
+                    return;
+                }
             }
         }
 
