@@ -154,6 +154,8 @@ public final class HiddenRows {
         return was;
     }
 
+    // ---- ways
+
     public long total() {
         return sums.whole();
     }
@@ -241,6 +243,8 @@ public final class HiddenRows {
         }
         return row.has(place) ? row.toldAt(drawing.told, place) : UNKNOWN;
     }
+
+    // ---- trees
 
     public long trees(int kind) {
         return kinds.has(kind) ? tables.sumOfAll(kind) : UNKNOWN;

@@ -51,67 +51,6 @@ public final class PromisesTest {
         }
     }
 
-    /**
-     * Two states over the signs 0, 1. The ways above 0, as they are before one another:
-     * 0, 1 (state 0 stays): 3 * 2 * 1 = 6; 0, 2: 2 * 2 * 3 = 12; 2, 0: 1 * 1 * 1 = 1. TOTAL is 19.
-     */
-    private static HiddenRows twoStates() {
-        HiddenRows x = new HiddenRows();
-        x.state();
-        x.state();
-        x.weight(0, 5, 2);
-        x.weight(0, 6, 1);
-        x.weight(1, 5, 1);
-        x.weight(1, 6, 3);
-        x.weight(0, 3, 3);
-        x.move(0, 1, 2);
-        x.move(1, 0, 1);
-        x.sign(0);
-        x.sign(1);
-        return x;
-    }
-
-    /** As above, but LAST of state 0 is 2: 12, 12 and 2, TOTAL is 26. */
-    private static HiddenRows twoStatesTied() {
-        HiddenRows x = twoStates();
-        x.weight(0, 1, 2);
-        return x;
-    }
-
-    /**
-     * Two kinds over the signs 0, 0, 1. RULES 0 -> 0 1: 2, 0 -> 1 0: 1, 1 -> 0 0: 3; LEAVES of 0: 1 and 4, of 1: 2 and 0.
-     * Trees of kind 0 over the places: split at 1: 0 (1) and 1 over "0 1" (3 * 1 * 4 = 12): 24;
-     * 1 (2) and 0 over "0 1" (0 1: 0; 1 0: 2 * 4 = 8): 16; split at 2: 0 over "0 0" (0 1: 4; 1 0: 2) and 1 (0): 0;
-     * 1 over "0 0" (3) and 0 (4): 12. In all 52, of three trees.
-     */
-    private static HiddenRows twoKinds() {
-        HiddenRows x = new HiddenRows();
-        x.kind();
-        x.kind();
-        x.rule(0, 0, 1, 2);
-        x.rule(0, 1, 0, 1);
-        x.rule(1, 0, 0, 3);
-        x.leaf(0, 0, 1);
-        x.leaf(0, 1, 4);
-        x.leaf(1, 0, 2);
-        x.sign(0);
-        x.sign(0);
-        x.sign(1);
-        return x;
-    }
-
-    /** One state that shows sign 0 and moves to itself, over n such signs; LAST and STAY are 1. */
-    private static HiddenRows oneState(int n) {
-        HiddenRows x = new HiddenRows();
-        x.state();
-        x.weight(0, 5, 1);
-        x.move(0, 0, 1);
-        for (int i = 0; i < n; i++) {
-            x.sign(0);
-        }
-        return x;
-    }
-
     private static void promise01NewObject() {
         due("new, the first call: drawnAt", new HiddenRows().drawnAt(0), -3);
         due("new, the first call: total", new HiddenRows().total(), 0);
@@ -174,7 +113,7 @@ public final class PromisesTest {
     }
 
     private static void promise03WhatEachWeightIsFor() {
-        HiddenRows x = oneState(1);
+        HiddenRows x = Examples.oneState(1);
         x.weight(0, 0, 2);
         x.weight(0, 1, 3);
         x.weight(0, 2, 4);
@@ -186,7 +125,7 @@ public final class PromisesTest {
         x.weight(0, 4, 3);
         due("stays of 1, 2, 3", x.total(), 6 * (64 + 4 + 4 + 3));
         for (int s = 0; s < 4; s++) {
-            HiddenRows y = oneState(0);
+            HiddenRows y = Examples.oneState(0);
             y.weight(0, 5, 0);
             y.weight(0, 5 + s, 3);
             y.sign(s);
@@ -282,7 +221,7 @@ public final class PromisesTest {
         due("bounds before room", x.sign(4), -2);
         due("bounds before room, low", x.sign(LOW), -2);
         due("six there are", x.clear(), 6);
-        HiddenRows y = oneState(1);
+        HiddenRows y = Examples.oneState(1);
         y.hold(0, 0);
         y.clear();
         y.sign(0);
@@ -292,7 +231,7 @@ public final class PromisesTest {
     }
 
     private static void promise09Clear() {
-        HiddenRows x = twoStates();
+        HiddenRows x = Examples.twoStates();
         due("clear", x.clear(), 2);
         due("clear again", x.clear(), 0);
         due("no way", x.total(), 0);
@@ -303,7 +242,7 @@ public final class PromisesTest {
         due("the states stay", x.weight(0, 5, 2), 2);
         x.sign(1);
         due("a new row", x.total(), 1 + 3);
-        HiddenRows y = twoKinds();
+        HiddenRows y = Examples.twoKinds();
         y.clear();
         due("no tree", y.trees(0), 0);
         due("no best tree", y.treeBest(0), -3);
@@ -312,7 +251,7 @@ public final class PromisesTest {
     }
 
     private static void promise10Hold() {
-        HiddenRows x = twoStates();
+        HiddenRows x = Examples.twoStates();
         due("hold", x.hold(1, 0), -1);
         due("held ways alone", x.total(), 7);
         due("held for another", x.hold(1, 1), 0);
@@ -328,34 +267,34 @@ public final class PromisesTest {
         due("state low", x.hold(1, LOW), -1);
         due("refusals change nothing", x.hold(1, -1), 1);
         due("all ways again", x.total(), 19);
-        HiddenRows y = twoKinds();
+        HiddenRows y = Examples.twoKinds();
         y.state();
         y.hold(0, 0);
         due("trees do not mind", y.trees(0), 52);
     }
 
     private static void promise11Total() {
-        due("two states", twoStates().total(), 19);
-        due("one state, one place", oneState(1).total(), 1);
-        due("one state, six places", oneState(6).total(), 1);
-        HiddenRows x = twoStates();
+        due("two states", Examples.twoStates().total(), 19);
+        due("one state, one place", Examples.oneState(1).total(), 1);
+        due("one state, six places", Examples.oneState(6).total(), 1);
+        HiddenRows x = Examples.twoStates();
         x.move(0, 0, 4);
         due("a move more", x.total(), 19 + 2 * 4);
-        HiddenRows missing = oneState(0);
+        HiddenRows missing = Examples.oneState(0);
         missing.weight(0, 6, 2);
         missing.weight(0, 7, 3);
         missing.weight(0, 8, 4);
         missing.sign(-1);
         due("a missing sign", missing.total(), 10);
-        HiddenRows stays = oneState(4);
+        HiddenRows stays = Examples.oneState(4);
         stays.weight(0, 2, 0);
         stays.weight(0, 4, 1);
         due("nothing stays four places", stays.total(), 0);
     }
 
     private static void promise12Ways() {
-        due("two states", twoStates().ways(), 3);
-        HiddenRows x = oneState(6);
+        due("two states", Examples.twoStates().ways(), 3);
+        HiddenRows x = Examples.oneState(6);
         due("all of one place", x.ways(), 1);
         x.weight(0, 3, 4);
         due("of one and two places", x.ways(), 13);
@@ -365,7 +304,7 @@ public final class PromisesTest {
         due("held for the same", x.ways(), 24);
         x.weight(0, 0, 0);
         due("none is first", x.ways(), 0);
-        HiddenRows missing = oneState(1);
+        HiddenRows missing = Examples.oneState(1);
         missing.weight(0, 6, 3);
         missing.clear();
         missing.sign(-1);
@@ -373,12 +312,12 @@ public final class PromisesTest {
     }
 
     private static void promise13Share() {
-        HiddenRows x = twoStates();
+        HiddenRows x = Examples.twoStates();
         dueRatio("share(0, 0)", x.share(0, 0, 0), x.share(0, 0, 1), 18, 19);
         dueRatio("share(0, 1)", x.share(0, 1, 0), x.share(0, 1, 1), 1, 19);
         dueRatio("share(1, 0)", x.share(1, 0, 0), x.share(1, 0, 1), 7, 19);
         dueRatio("share(1, 1)", x.share(1, 1, 0), x.share(1, 1, 1), 12, 19);
-        HiddenRows tied = twoStatesTied();
+        HiddenRows tied = Examples.twoStatesTied();
         dueRatio("in lowest terms", tied.share(1, 0, 0), tied.share(1, 0, 1), 7, 13);
         tied.hold(0, 0);
         dueRatio("0 is 0 / 1", tied.share(0, 1, 0), tied.share(0, 1, 1), 0, 1);
@@ -399,11 +338,11 @@ public final class PromisesTest {
     }
 
     private static void promise14Begin() {
-        HiddenRows x = twoStates();
+        HiddenRows x = Examples.twoStates();
         dueRatio("begin(0, 0)", x.begin(0, 0, 0), x.begin(0, 0, 1), 18, 19);
         dueRatio("begin(1, 0)", x.begin(1, 0, 0), x.begin(1, 0, 1), 1, 19);
         dueRatio("begin(1, 1)", x.begin(1, 1, 0), x.begin(1, 1, 1), 12, 19);
-        HiddenRows tied = twoStatesTied();
+        HiddenRows tied = Examples.twoStatesTied();
         dueRatio("in lowest terms", tied.begin(1, 0, 0), tied.begin(1, 0, 1), 1, 13);
         due("place 2", x.begin(2, 0, 0), -1);
         due("place -1", x.begin(-1, 0, 0), -1);
@@ -418,13 +357,13 @@ public final class PromisesTest {
     }
 
     private static void promise15Pair() {
-        HiddenRows x = twoStates();
+        HiddenRows x = Examples.twoStates();
         dueRatio("pair(0, 0, 1)", x.pair(0, 0, 1, 0), x.pair(0, 0, 1, 1), 12, 19);
         dueRatio("pair(0, 1, 0)", x.pair(0, 1, 0, 0), x.pair(0, 1, 0, 1), 1, 19);
         dueRatio("going on is no pair", x.pair(0, 0, 0, 0), x.pair(0, 0, 0, 1), 0, 1);
-        HiddenRows tied = twoStatesTied();
+        HiddenRows tied = Examples.twoStatesTied();
         dueRatio("in lowest terms", tied.pair(0, 0, 1, 0), tied.pair(0, 0, 1, 1), 6, 13);
-        HiddenRows same = oneState(2);
+        HiddenRows same = Examples.oneState(2);
         same.weight(0, 3, 3);
         dueRatio("of the same", same.pair(0, 0, 0, 0), same.pair(0, 0, 0, 1), 1, 4);
         due("the last place", x.pair(1, 0, 1, 0), -1);
@@ -437,19 +376,19 @@ public final class PromisesTest {
         due("to -1", x.pair(0, 0, -1, 0), -1);
         due("part 2", x.pair(0, 0, 1, 2), -2);
         due("last place before part", x.pair(1, 0, 1, 2), -1);
-        due("a row of one place", oneState(1).pair(0, 0, 0, 0), -1);
+        due("a row of one place", Examples.oneState(1).pair(0, 0, 0, 0), -1);
         x.sign(2);
         due("no way", x.pair(0, 0, 1, 0), -3);
         due("part before none", x.pair(0, 0, 1, -1), -2);
     }
 
     private static void promise16Top() {
-        HiddenRows x = twoStates();
+        HiddenRows x = Examples.twoStates();
         due("top(0)", x.top(0), 0);
         due("top(1)", x.top(1), 1);
         due("place 2", x.top(2), -1);
         due("place -1", x.top(-1), -1);
-        HiddenRows even = oneState(0);
+        HiddenRows even = Examples.oneState(0);
         even.state();
         even.state();
         even.weight(0, 5, 1);
@@ -463,7 +402,7 @@ public final class PromisesTest {
     }
 
     private static void promise17Best() {
-        HiddenRows x = twoStates();
+        HiddenRows x = Examples.twoStates();
         due("best(0)", x.best(0), 12);
         due("best(1)", x.best(1), 6);
         due("best(2)", x.best(2), 1);
@@ -475,7 +414,7 @@ public final class PromisesTest {
         x.clear();
         due("no places", x.best(0), -3);
         due("bounds before none", x.best(10), -2);
-        HiddenRows many = oneState(6);
+        HiddenRows many = Examples.oneState(6);
         many.weight(0, 3, 2);
         due("three stays of two", many.best(0), 8);
         due("two of them, fourth", many.best(1), 4);
@@ -485,13 +424,13 @@ public final class PromisesTest {
     }
 
     private static void promise18BestAt() {
-        HiddenRows x = twoStates();
+        HiddenRows x = Examples.twoStates();
         due("bestAt(0, 0)", x.bestAt(0, 0), 0);
         due("bestAt(0, 1)", x.bestAt(0, 1), 2);
         due("bestAt(1, 1)", x.bestAt(1, 1), 1);
         due("bestAt(2, 0)", x.bestAt(2, 0), 2);
         due("bestAt(2, 1)", x.bestAt(2, 1), 0);
-        HiddenRows tied = twoStatesTied();
+        HiddenRows tied = Examples.twoStatesTied();
         due("tied, the one before", tied.bestAt(0, 1), 1);
         due("tied, the one behind", tied.bestAt(1, 1), 2);
         due("k 10", x.bestAt(10, 0), -2);
@@ -511,7 +450,7 @@ public final class PromisesTest {
     }
 
     private static void promise19Drawn() {
-        HiddenRows x = twoStates();
+        HiddenRows x = Examples.twoStates();
         boolean[] seen = new boolean[19];
         for (int seed = -100; seed < 100; seed++) {
             int u = (int) (spread(seed) % 19);
@@ -531,7 +470,7 @@ public final class PromisesTest {
     }
 
     private static void promise20DrawnAt() {
-        HiddenRows x = twoStates();
+        HiddenRows x = Examples.twoStates();
         due("none yet", x.drawnAt(0), -3);
         due("none before place", x.drawnAt(5), -3);
         for (int seed = 0; seed < 40; seed++) {
@@ -545,7 +484,7 @@ public final class PromisesTest {
     }
 
     private static void promise20WhatForgetsTheDrawn() {
-        HiddenRows x = twoStates();
+        HiddenRows x = Examples.twoStates();
         x.hold(0, 0);
         x.hold(1, 1);
         for (int change = 0; change < 7; change++) {
@@ -556,16 +495,16 @@ public final class PromisesTest {
             due("forgotten by change " + change, x.drawnAt(1), -3);
             due("the place does not matter", x.drawnAt(length), -3);
         }
-        HiddenRows longer = oneState(1);
+        HiddenRows longer = Examples.oneState(1);
         longer.drawn(1);
         longer.sign(0);
         due("forgotten by a sign", longer.drawnAt(0), -3);
-        HiddenRows refused = oneState(1);
+        HiddenRows refused = Examples.oneState(1);
         refused.drawn(1);
         refused.sign(1);
         refused.drawn(1);
         due("a refused drawing draws nothing", refused.drawnAt(0), -3);
-        HiddenRows full = oneState(6);
+        HiddenRows full = Examples.oneState(6);
         for (int s = 1; s < 4; s++) {
             full.state();
         }
@@ -606,7 +545,7 @@ public final class PromisesTest {
     }
 
     private static void promise21Trees() {
-        HiddenRows x = twoKinds();
+        HiddenRows x = Examples.twoKinds();
         due("trees(0)", x.trees(0), 52);
         due("trees(1)", x.trees(1), 3 * (1 * (0 + 8) + (4 + 2) * 4));
         due("kind 2", x.trees(2), -1);
@@ -629,7 +568,7 @@ public final class PromisesTest {
     }
 
     private static void promise22TreeCount() {
-        HiddenRows x = twoKinds();
+        HiddenRows x = Examples.twoKinds();
         due("treeCount(0)", x.treeCount(0), 3);
         due("treeCount(1)", x.treeCount(1), 3);
         due("kind 2", x.treeCount(2), -1);
@@ -643,7 +582,7 @@ public final class PromisesTest {
     }
 
     private static void promise23TreeBest() {
-        HiddenRows x = twoKinds();
+        HiddenRows x = Examples.twoKinds();
         due("treeBest(0)", x.treeBest(0), 24);
         due("treeBest(1)", x.treeBest(1), 48);
         due("kind 2", x.treeBest(2), -1);
@@ -656,7 +595,7 @@ public final class PromisesTest {
     }
 
     private static void promise24TreeAt() {
-        HiddenRows x = twoKinds();
+        HiddenRows x = Examples.twoKinds();
         int[] best = {101, 0, 200, 0, 0};
         for (int i = 0; i < best.length; i++) {
             due("treeAt(0, " + i + ")", x.treeAt(0, i), best[i]);
@@ -683,7 +622,7 @@ public final class PromisesTest {
     }
 
     private static void promise25Span() {
-        HiddenRows x = twoKinds();
+        HiddenRows x = Examples.twoKinds();
         dueRatio("1 over 1 .. 2", x.span(0, 1, 1, 2, 0), x.span(0, 1, 1, 2, 1), 6, 13);
         dueRatio("0 over 1 .. 2", x.span(0, 0, 1, 2, 0), x.span(0, 0, 1, 2, 1), 4, 13);
         dueRatio("1 over 0 .. 1", x.span(0, 1, 0, 1, 0), x.span(0, 1, 0, 1, 1), 3, 13);
@@ -711,26 +650,7 @@ public final class PromisesTest {
     }
 
     private static void greatestNumbers() {
-        HiddenRows x = new HiddenRows();
-        for (int a = 0; a < 4; a++) {
-            x.state();
-            x.kind();
-        }
-        for (int a = 0; a < 4; a++) {
-            for (int what = 0; what < 9; what++) {
-                x.weight(a, what, 4);
-            }
-            for (int b = 0; b < 4; b++) {
-                x.move(a, b, 4);
-                x.leaf(a, b, 4);
-                for (int c = 0; c < 4; c++) {
-                    x.rule(a, b, c, 4);
-                }
-            }
-        }
-        for (int i = 0; i < 6; i++) {
-            x.sign(-1);
-        }
+        HiddenRows x = Examples.greatest();
         due("greatest total", x.total(), 4983356407865671680L);
         due("most ways", x.ways(), 12240);
         dueRatio("even shares", x.share(2, 3, 0), x.share(2, 3, 1), 1, 4);
