@@ -73,6 +73,8 @@ public final class BoundariesOfTermsTest {
         on.holds(TERMS, "u is (2147483648 x + y) modulo TOTAL.", BoundariesOfTermsTest::moduloTheLeastAndGreatestTotal);
         on.holds(TERMS, "What is DRAWN is the first of all WAYS, as they are BEFORE one another, with which the sum of"
             + " the WEIGHTS so far comes to be above u.", BoundariesOfTermsTest::justAboveU);
+        on.holds(TERMS, "What is DRAWN is the first of all WAYS, as they are BEFORE one another,",
+            BoundariesOfTermsTest::eachWayOfAllStaysIsDrawn);
     }
 
     private static void trees(Sentences on) {
@@ -396,6 +398,8 @@ public final class BoundariesOfTermsTest {
 
     private static void noWayWithoutPlaces(Sentences t) {
         HiddenRows x = Examples.greatest();
+        t.due("total() with places", x.total(), 4983356407865671680L);
+        t.due("best(0) with places", x.best(0), 1L << 50);
         x.clear();
         t.due("total()", x.total(), 0);
         t.due("ways()", x.ways(), 0);
@@ -515,6 +519,24 @@ public final class BoundariesOfTermsTest {
         t.due("u is 6: 6 is not above it", x.drawn(-186), 12);
         t.due("u is 17", x.drawn(-188), 12);
         t.due("u is 18: the last way", x.drawn(-198), 1);
+    }
+
+    /** STAY 1, 2, 3 are 1, 2, 3, so TOTAL is 100; the seeds, worked out apart, reach each of the 24 ways in its turn. */
+    private static void eachWayOfAllStaysIsDrawn(Sentences t) {
+        HiddenRows x = Examples.oneState(6);
+        x.weight(0, 3, 2);
+        x.weight(0, 4, 3);
+        int[] seeds = {7, 16, 45, 18, 0, 49, 2, 51, 4, 6, 37, 19, 21, 50, 23, 25, 9, 29, 11, 15, 17, 8, 1, 5};
+        String[] told = {"000000", "000001", "000010", "000011", "000100", "000101", "000110", "001000", "001001", "001010",
+            "001011", "001100", "001101", "010000", "010001", "010010", "010011", "010100", "010101", "010110", "011000",
+            "011001", "011010", "011011"};
+        int[] weights = {1, 2, 2, 3, 2, 4, 3, 2, 4, 4, 6, 3, 6, 2, 4, 4, 6, 4, 8, 6, 3, 6, 6, 9};
+        for (int i = 0; i < 24; i++) {
+            t.due("drawn(" + seeds[i] + ")", x.drawn(seeds[i]), weights[i]);
+            for (int place = 0; place < 6; place++) {
+                t.due("way " + i + ", drawnAt(" + place + ")", x.drawnAt(place), told[i].charAt(place) - '0');
+            }
+        }
     }
 
     private static void fourKindsAtMost(Sentences t) {

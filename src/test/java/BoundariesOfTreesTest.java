@@ -292,6 +292,9 @@ public final class BoundariesOfTreesTest {
     }
 
     private static void spanInLowestTerms(Sentences t) {
+        HiddenRows place = bentLeft(1);
+        t.dueRatio("one place", place.span(3, 3, 0, 0, 0), place.span(3, 3, 0, 0, 1), 1, 1);
+        t.dueRatio("one place, another kind", place.span(3, 2, 0, 0, 0), place.span(3, 2, 0, 0, 1), 0, 1);
         HiddenRows x = Examples.greatest();
         t.dueRatio("all", x.span(3, 3, 0, 5, 0), x.span(3, 3, 0, 5, 1), 1, 1);
         t.dueRatio("none", x.span(3, 2, 0, 5, 0), x.span(3, 2, 0, 5, 1), 0, 1);

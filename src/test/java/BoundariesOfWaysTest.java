@@ -410,6 +410,8 @@ public final class BoundariesOfWaysTest {
 
     private static void notSoManyBest(Sentences t) {
         HiddenRows x = sevenWays();
+        t.due("best(0) of one place", Examples.oneState(1).best(0), 1);
+        t.due("best(1) of one place", Examples.oneState(1).best(1), -3);
         t.due("best(6), the last", x.best(6), 1);
         t.due("best(7)", x.best(7), -3);
         t.due("best(9)", x.best(9), -3);
