@@ -1,4 +1,7 @@
-/** All that an object can be asked, as one text; asking takes the object to its end, and stays within its calls. */
+/**
+ * What an object answers and stores, as one text. Of the questions only so many are asked that a full object stays within
+ * its 512 calls (part 0 alone, what the best ways tell for the last place, spans from place 0); all that is stored is told.
+ */
 final class Portrait {
     private final HiddenRows x;
     private final StringBuilder text = new StringBuilder();
