@@ -26,6 +26,9 @@ public final class HiddenRows {
     private static final int SHOW_ZERO = 5;
     private static final int WHATS = SHOW_ZERO + SIGNS;
 
+    /** What a missing sign shows at most; no other factor is as great. */
+    private static final int GREATEST_FACTOR = SIGNS * MOST_WEIGHT;
+
     /** A told number is 0 to 7, so that what a way tells is kept as one int, three bits for each place. */
     private static final int TOLD_BITS = 3;
     private static final int TOLD_MASK = 7;
@@ -45,7 +48,7 @@ public final class HiddenRows {
     public HiddenRows() {
         row = new Row();
         states = new States();
-        sums = new WaySums(row, states, Integer.MAX_VALUE);
+        sums = new WaySums(row, states, GREATEST_FACTOR);
         counts = new WaySums(row, states, 1);
         bests = new BestWays(row, states, sums);
         drawing = new Drawing(row, states, sums);

@@ -22,7 +22,10 @@ public final class AgainstPlainModelTest {
 
     /** One run; its number sets the seed and how rich the run is, so that all trees can be written out. */
     private static final class Run {
-        private static final int[][] MOST_KINDS_AND_PLACES = {{1, 6}, {2, 6}, {3, 4}, {4, 4}, {4, 3}, {2, 5}};
+        /** Most kinds, most places, and of how many rules one may weigh anything. */
+        private static final int[][] SHAPES = {
+            {1, 6, 1}, {2, 6, 1}, {3, 4, 1}, {4, 4, 1}, {4, 3, 1}, {2, 5, 1}, {3, 6, 2}, {4, 6, 2}, {4, 5, 2}
+        };
         private final int number;
         private final Random random;
         private final HiddenRows real = new HiddenRows();
@@ -30,15 +33,17 @@ public final class AgainstPlainModelTest {
         private final StringBuilder calls = new StringBuilder();
         private final int mostKinds;
         private final int mostPlaces;
+        private final int oneRuleOf;
         private final int mostStates;
         private final int oddsOfZero;
 
         Run(int number) {
             this.number = number;
             random = new Random(number * 7919L + 5);
-            int[] most = MOST_KINDS_AND_PLACES[number % MOST_KINDS_AND_PLACES.length];
-            mostKinds = most[0];
-            mostPlaces = most[1];
+            int[] shape = SHAPES[number % SHAPES.length];
+            mostKinds = shape[0];
+            mostPlaces = shape[1];
+            oneRuleOf = shape[2];
             mostStates = 1 + random.nextInt(4);
             oddsOfZero = random.nextInt(3);
         }
@@ -61,7 +66,7 @@ public final class AgainstPlainModelTest {
                     ? same("kind()", real.kind(), plain.kind()) : true;
                 case 2: case 3: return weightCall(near(plain.states.size()), near(9), someWeight());
                 case 4: return moveCall(near(plain.states.size()), near(plain.states.size()), someWeight());
-                case 5: case 6: return ruleCall(near(plain.kinds), near(plain.kinds), near(plain.kinds), someWeight());
+                case 5: case 6: return ruleCall(near(plain.kinds), near(plain.kinds), near(plain.kinds), ruleWeight());
                 case 7: return leafCall(near(plain.kinds), near(4), someWeight());
                 case 8: return signCall();
                 case 9: return rowCall();
@@ -170,6 +175,10 @@ public final class AgainstPlainModelTest {
                 return -1;
             }
             return random.nextInt(3) < oddsOfZero ? random.nextInt(2) : random.nextInt(5);
+        }
+
+        private int ruleWeight() {
+            return random.nextInt(oneRuleOf) == 0 ? someWeight() : 0;
         }
 
         /** Mostly one of 0 .. count - 1, now and then one beside them. */
